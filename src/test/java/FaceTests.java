@@ -1,0 +1,1 @@
+public final class FaceTests { public static void main(String[] a) { } }
