@@ -15,7 +15,6 @@ public final class PairedChannels {
     private static final int HEARD_BASE = 10000;
     private static final int VALUE_BASE = 100;
     private static final int DIGEST_START = 2797;
-    private static final double TWO_TO_52 = 4503599627370496.0;
 
     private static final int NOISE = 0;
     private static final int PATHS = 1;
@@ -23,7 +22,7 @@ public final class PairedChannels {
     private static final int STRENGTH = 3;
     private static final int SETTINGS = 4;
     private static final int[] LEAST_SETTING = {1, 1, 0, 1};
-    private static final int[] MOST_SETTING = {999, MAX_PATHS, 3, 99};
+    private static final int[] MOST_SETTING = {999, 4, 3, 99};
 
     /** For each of the steps 1, 2, 4, 8 the places p with p / step even, as a mask. */
     private static final int[] FORMER_PLACES = {0x5555, 0x3333, 0x0F0F, 0x00FF};
@@ -126,7 +125,8 @@ public final class PairedChannels {
         save();
         int previous = now.values[place];
         now.values[place] = value;
-        return Integer.signum(previous) == Integer.signum(value) ? 0 : 1;
+        boolean isAsBefore = previous > 0 == value > 0 && previous < 0 == value < 0;
+        return isAsBefore ? 0 : 1;
     }
 
     public int flip(int place) throws IndexOutOfBoundsException {
@@ -248,11 +248,11 @@ public final class PairedChannels {
             throw new IllegalArgumentException("what is not 0 to 4");
         }
         Reading current = currentReading();
-        int rank = current.firstRight(now);
-        if (rank == NONE) {
+        int rank = current.rankRead;
+        if (rank < 0 || rank >= MAX_PATHS) {
             return NONE;
         }
-        int message = current.messageAt(rank, now);
+        int message = current.messages[rank];
         switch (what) {
             case 0:
                 return message;
@@ -261,7 +261,7 @@ public final class PairedChannels {
             case 2:
                 return rank;
             case 3:
-                return current.penaltyAt(rank);
+                return current.penalties[rank];
             default:
                 return now.differences(now.wordOf(message));
         }
@@ -272,17 +272,17 @@ public final class PairedChannels {
             throw new IllegalArgumentException("rank is below 0, or what is not 0 to 2");
         }
         Reading current = currentReading();
-        if (rank >= current.paths) {
+        if (rank >= current.paths || rank >= MAX_PATHS) {
             return NONE;
         }
-        if (what == 1) {
-            return current.penaltyAt(rank);
+        switch (what) {
+            case 0:
+                return current.messages[rank];
+            case 1:
+                return current.penalties[rank];
+            default:
+                return current.isRight[rank] ? 1 : 0;
         }
-        int message = current.messageAt(rank, now);
-        if (what == 0) {
-            return message;
-        }
-        return now.isRight(message) ? 1 : 0;
     }
 
     public int heard(int place) throws IndexOutOfBoundsException {
@@ -309,7 +309,7 @@ public final class PairedChannels {
             case 6:
                 return currentReading().paths;
             case 7:
-                return currentReading().rightPaths(now);
+                return currentReading().rightPaths();
             case 8:
                 return savedStates;
             default:
@@ -330,20 +330,21 @@ public final class PairedChannels {
         if (!now.hasPlace(place)) {
             throw new IndexOutOfBoundsException("there is no such place");
         }
-        return readIf(1 << place, now.settings[PATHS]);
+        return trial.messageRead(now, 1 << place, now.settings[PATHS]);
     }
 
     public int ifPaths(int paths) throws IllegalArgumentException {
         if (paths < 1 || paths > MAX_PATHS) {
             throw new IllegalArgumentException("paths is not 1 to 4");
         }
-        return readIf(0, paths);
+        return trial.messageRead(now, 0, paths);
     }
 
     public int weakest() {
-        int readNow = currentReading().messageRead(now);
+        int paths = now.settings[PATHS];
+        int readNow = trial.messageRead(now, 0, paths);
         for (int p = 0; p < now.places; p++) {
-            if (readIf(1 << p, now.settings[PATHS]) != readNow) {
+            if (trial.messageRead(now, 1 << p, paths) != readNow) {
                 return p;
             }
         }
@@ -351,11 +352,12 @@ public final class PairedChannels {
     }
 
     public int borne() {
-        int readNow = currentReading().messageRead(now);
+        int paths = now.settings[PATHS];
+        int readNow = trial.messageRead(now, 0, paths);
         int flipped = 0;
         for (int p = 0; p < now.places; p++) {
             flipped |= 1 << p;
-            if (readIf(flipped, now.settings[PATHS]) != readNow) {
+            if (trial.messageRead(now, flipped, paths) != readNow) {
                 return p;
             }
         }
@@ -429,15 +431,10 @@ public final class PairedChannels {
 
     private Reading currentReading() {
         if (!readingIsFresh) {
-            reading.run(now, 0, now.settings[PATHS]);
+            reading.messageRead(now, 0, now.settings[PATHS]);
             readingIsFresh = true;
         }
         return reading;
-    }
-
-    private int readIf(int flipped, int paths) {
-        trial.run(now, flipped, paths);
-        return trial.messageRead(now);
     }
 
     private static int coded(int bits, int places) {
@@ -446,6 +443,14 @@ public final class PairedChannels {
             result ^= result >> (1 << level) & FORMER_PLACES[level];
         }
         return result;
+    }
+
+    private static int checkNumber(int message, int bodyBits, int checkBits) {
+        int sum = 0;
+        for (int j = 0; j < bodyBits; j++) {
+            sum += (message >> j & 1) * (j + 1);
+        }
+        return sum & (1 << checkBits) - 1;
     }
 
     /**
@@ -462,7 +467,8 @@ public final class PairedChannels {
             scaled = scaled * 2.0;
             exponent--;
         }
-        return (exponent << 52) + (long) ((scaled - 1.0) * TWO_TO_52);
+        double twoTo52 = 4503599627370496.0;
+        return (exponent << 52) + (long) ((scaled - 1.0) * twoTo52);
     }
 
     /** What undo brings back: the places, which are open, the values received, the settings. */
@@ -545,15 +551,7 @@ public final class PairedChannels {
 
         int withChecks(int body) {
             int bodyBits = bodyBits();
-            int sum = 0;
-            for (int j = 0; j < bodyBits; j++) {
-                sum += (body >> j & 1) * (j + 1);
-            }
-            return body | (sum & (1 << checkBits()) - 1) << bodyBits;
-        }
-
-        boolean isRight(int message) {
-            return withChecks(bodyOf(message)) == message;
+            return body | checkNumber(body, bodyBits, checkBits()) << bodyBits;
         }
 
         int wordOf(int message) {
@@ -613,16 +611,19 @@ public final class PairedChannels {
         private final int[] received = new int[MAX_PLACES];
         private final int[] row = new int[MAX_PLACES];
         private final int[] bits = new int[MAX_PATHS];
-        private final int[] penalties = new int[MAX_PATHS];
+        final int[] penalties = new int[MAX_PATHS];
+        final int[] messages = new int[MAX_PATHS];
+        final boolean[] isRight = new boolean[MAX_PATHS];
         private final int[] grownBits = new int[2 * MAX_PATHS];
         private final int[] grownPenalties = new int[2 * MAX_PATHS];
         private int grown;
         private int places;
-        /** How many paths there are; at the end bits and penalties have them by their ranks. */
+        /** How many paths there are; at the end the rows have them by their ranks. */
         int paths;
+        int rankRead;
 
         /** Reads what is received, with the values of the places in the mask flipped. */
-        void run(Word word, int flipped, int limit) {
+        int messageRead(Word word, int flipped, int limit) {
             places = word.places;
             for (int p = 0; p < MAX_PLACES; p++) {
                 received[p] = (flipped >> p & 1) == 1 ? -word.values[p] : word.values[p];
@@ -635,6 +636,22 @@ public final class PairedChannels {
                 keepLeast(limit);
             }
             orderByPenalties();
+            judge(word);
+            return rankRead >= 0 && rankRead < MAX_PATHS ? messages[rankRead] : NONE;
+        }
+
+        private void judge(Word word) {
+            int bodyBits = word.bodyBits();
+            int checkBits = word.checkBits();
+            rankRead = NONE;
+            for (int rank = 0; rank < paths && rank < MAX_PATHS; rank++) {
+                int message = word.messageOf(bits[rank]);
+                messages[rank] = message;
+                isRight[rank] = message >> bodyBits == checkNumber(message, bodyBits, checkBits);
+                if (isRight[rank] && rankRead == NONE) {
+                    rankRead = rank;
+                }
+            }
         }
 
         private void growPaths(int place, boolean isOpen) {
@@ -725,38 +742,16 @@ public final class PairedChannels {
             }
         }
 
-        int penaltyAt(int rank) {
-            return rank >= 0 && rank < MAX_PATHS ? penalties[rank] : 0;
-        }
-
-        int messageAt(int rank, Word word) {
-            return rank >= 0 && rank < MAX_PATHS ? word.messageOf(bits[rank]) : 0;
-        }
-
         int heardByFirst(int place) {
             return hear(bits[0], place);
         }
 
-        int firstRight(Word word) {
-            for (int rank = 0; rank < paths; rank++) {
-                if (word.isRight(messageAt(rank, word))) {
-                    return rank;
-                }
-            }
-            return NONE;
-        }
-
-        int rightPaths(Word word) {
+        int rightPaths() {
             int right = 0;
             for (int rank = 0; rank < paths; rank++) {
-                right += word.isRight(messageAt(rank, word)) ? 1 : 0;
+                right += isRight[rank] ? 1 : 0;
             }
             return right;
-        }
-
-        int messageRead(Word word) {
-            int rank = firstRight(word);
-            return rank == NONE ? NONE : messageAt(rank, word);
         }
     }
 

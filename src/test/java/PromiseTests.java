@@ -472,6 +472,12 @@ public final class PromiseTests {
         checks.due("undo of receiveAll", x.undo(), 0);
         checks.due("the value then", x.place(0, 3), 114);
         checks.due("undo leaves the buffer", x.clearBuffer(), 1);
+        PairedChannels y = twoPlaces(3, 5);
+        y.receive(1, -5);
+        checks.due("read(0) of 3 and -5", y.read(0), 1);
+        y.undo();
+        checks.due("read(0) behind undo", y.read(0), 0);
+        checks.due("heard(1) behind undo", y.heard(1), 10008);
     }
 
     private static void place() {
