@@ -265,7 +265,8 @@ public final class PromiseTests {
     private static void receive() {
         PairedChannels x = new PairedChannels();
         int[][] rows = {{0, 0, 0}, {0, 5, 1}, {5, 99, 0}, {99, -99, 1}, {-99, -1, 0}, {-1, 0, 1},
-            {0, -3, 1}, {-3, 4, 1}, {4, 0, 1}};
+            {0, -3, 1}, {-3, 4, 1}, {4, 0, 1},
+            {0, 1, 1}, {1, 1, 0}, {1, 0, 1}, {0, 0, 0}};
         for (int[] row : rows) {
             String call = "receive(3, " + row[1] + ") behind " + row[0];
             checks.due(call, x.receive(3, row[1]), row[2]);
