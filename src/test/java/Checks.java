@@ -45,6 +45,23 @@ final class Checks {
         }
     }
 
+    /** The test of one sentence of the document; one that asks for nothing is a fault as well. */
+    void sentence(String words, Runnable test) {
+        int askedBefore = asked;
+        int wrongBefore = wrong;
+        try {
+            test.run();
+        } catch (RuntimeException e) {
+            tell("a call threw " + e);
+        }
+        if (asked == askedBefore) {
+            tell("nothing was asked");
+        }
+        if (wrong > wrongBefore) {
+            System.out.println(about + ": does not hold: " + words);
+        }
+    }
+
     void tell(String fault) {
         wrong++;
         if (wrong <= 40) {

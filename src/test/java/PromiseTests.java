@@ -47,31 +47,11 @@ public final class PromiseTests {
         checks.end();
     }
 
-    private static void write(PairedChannels x, String text) {
-        for (int i = 0; i < text.length(); i++) {
-            x.append(text.charAt(i));
-        }
-    }
-
-    private static PairedChannels withBuffer(String text) {
-        PairedChannels x = new PairedChannels();
-        write(x, text);
-        return x;
-    }
-
     private static void dueValues(String behind, PairedChannels x, int... values) {
         checks.due("places behind " + behind, x.count(0), values.length);
         for (int p = 0; p < values.length; p++) {
             checks.due("place(" + p + ", 3) behind " + behind, x.place(p, 3), values[p] + 100);
         }
-    }
-
-    private static int openMask(PairedChannels x) {
-        int mask = 0;
-        for (int p = 0; p < x.count(0); p++) {
-            mask |= x.place(p, 0) << p;
-        }
-        return mask;
     }
 
     /** Four places that hear 3, -5, 7, 2; the places 2 and 3 are open. */
@@ -101,7 +81,7 @@ public final class PromiseTests {
         PairedChannels x = new PairedChannels();
         checks.due("NONE", PairedChannels.NONE, -1);
         dueValues("new", x, 0, 0, 0, 0, 0, 0, 0, 0);
-        checks.due("open places", openMask(x), 0);
+        checks.due("open places", Given.openMask(x), 0);
         checks.due("setting 0", x.setting(0), 500);
         checks.due("setting 1", x.setting(1), 1);
         checks.due("setting 2", x.setting(2), 0);
@@ -122,7 +102,7 @@ public final class PromiseTests {
             int asked = k;
             checks.due("begin(" + k + ")", x.begin(k), n);
             dueValues("begin(" + k + ")", x, new int[n]);
-            checks.due("open places behind begin", openMask(x), 0);
+            checks.due("open places behind begin", Given.openMask(x), 0);
             checks.due("the place n", x.place(n - 1, 0), 0);
             checks.throwsOf(x, "place(n, 0)", BOUNDS, () -> x.place(1 << asked, 0));
             x.open(n);
@@ -137,7 +117,7 @@ public final class PromiseTests {
         checks.due("setting 1 stays", x.setting(1), 3);
         checks.due("setting 2 stays", x.setting(2), 2);
         checks.due("setting 3 stays", x.setting(3), 45);
-        write(x, "1,2");
+        Given.write(x, "1,2");
         x.begin(3);
         checks.due("the buffer stays", x.clearBuffer(), 3);
         for (int k : new int[] {0, 5, -1, 32, 33, LEAST, MOST}) {
@@ -150,12 +130,12 @@ public final class PromiseTests {
         int[] masks = {0, 128, 192, 224, 232, 248, 252, 254, 255};
         for (int many = 0; many <= 8; many++) {
             checks.due("open(" + many + ")", x.open(many), masks[many]);
-            checks.due("open places behind open", openMask(x), masks[many]);
+            checks.due("open places behind open", Given.openMask(x), masks[many]);
         }
         x.open(0);
         x.toggle(0);
         checks.due("open(2) closes others", x.open(2), 192);
-        checks.due("open places behind open(2)", openMask(x), 192);
+        checks.due("open places behind open(2)", Given.openMask(x), 192);
         x.receive(3, -7);
         x.open(5);
         dueValues("open", x, 0, 0, 0, -7, 0, 0, 0, 0);
@@ -181,7 +161,7 @@ public final class PromiseTests {
         x.set(0, 500);
         checks.due("open(9) of 16", x.open(9), 65216);
         x.set(0, 999);
-        checks.due("open places stay when the noise changes", openMask(x), 65216);
+        checks.due("open places stay when the noise changes", Given.openMask(x), 65216);
         // with 999 the place 0 is as unsure as 1 and others, and comes last
         checks.due("open(15) at 999", x.open(15), 65534);
     }
@@ -190,9 +170,9 @@ public final class PromiseTests {
         PairedChannels x = new PairedChannels();
         checks.due("toggle(0)", x.toggle(0), 1);
         checks.due("toggle(7)", x.toggle(7), 1);
-        checks.due("open places", openMask(x), 129);
+        checks.due("open places", Given.openMask(x), 129);
         checks.due("toggle(0) again", x.toggle(0), 0);
-        checks.due("open places", openMask(x), 128);
+        checks.due("open places", Given.openMask(x), 128);
         for (int place : new int[] {-1, 8, 16, 32, LEAST, MOST}) {
             checks.throwsOf(x, "toggle(" + place + ")", BOUNDS, () -> x.toggle(place));
         }
@@ -300,7 +280,7 @@ public final class PromiseTests {
 
     private static void roll() {
         PairedChannels x = new PairedChannels();
-        write(x, "1,2,3,3,-5,6,7,8");
+        Given.write(x, "1,2,3,3,-5,6,7,8");
         x.receiveAll();
         x.toggle(0);
         checks.due("roll(0)", x.roll(0), 0);
@@ -311,7 +291,7 @@ public final class PromiseTests {
         dueValues("roll(3)", x, -5, 6, 7, 8, 1, 2, 3, 3);
         checks.due("roll(7)", x.roll(7), 7);
         dueValues("roll(7)", x, 6, 7, 8, 1, 2, 3, 3, -5);
-        checks.due("open places stay", openMask(x), 1);
+        checks.due("open places stay", Given.openMask(x), 1);
         for (int by : new int[] {-1, 8, 15, 16, LEAST, MOST}) {
             checks.throwsOf(x, "roll(" + by + ")", ARGUMENT, () -> x.roll(by));
         }
@@ -346,7 +326,7 @@ public final class PromiseTests {
     }
 
     private static void clearBuffer() {
-        PairedChannels x = withBuffer("12,x");
+        PairedChannels x = Given.withBuffer("12,x");
         x.receive(0, 5);
         checks.due("clearBuffer()", x.clearBuffer(), 4);
         checks.due("clearBuffer() again", x.clearBuffer(), 0);
@@ -354,82 +334,76 @@ public final class PromiseTests {
         dueValues("clearBuffer", x, 5, 0, 0, 0, 0, 0, 0, 0);
         x.undo();
         checks.due("the buffer behind undo", x.clearBuffer(), 0);
-        write(x, "7");
+        Given.write(x, "7");
         checks.due("values of a text behind clearBuffer", x.receiveAll(), 1);
         dueValues("a text behind clearBuffer", x, 7, 0, 0, 0, 0, 0, 0, 0);
     }
 
-    private static String repeated(String part, int times) {
-        StringBuilder text = new StringBuilder();
-        for (int i = 0; i < times; i++) {
-            text.append(part);
-        }
-        return text.toString();
-    }
-
     private static void firstError() {
         String[] right = {"", "-", "0", "-0", "9", "10", "99", "-99", "1,", "1,-", "0,0", "-0,-0,",
-            "12,-3,0,45", repeated("0,", 15), repeated("0,", 15) + "0", repeated("-99,", 15),
-            repeated("0,", 15) + "-", repeated("0,", 15) + "-10"};
+            "12,-3,0,45", Given.repeated("0,", 15), Given.repeated("0,", 15) + "0",
+            Given.repeated("-99,", 15),
+            Given.repeated("0,", 15) + "-", Given.repeated("0,", 15) + "-10"};
         for (String text : right) {
-            PairedChannels x = withBuffer(text);
+            PairedChannels x = Given.withBuffer(text);
             checks.due("firstError of " + text, x.firstError(), text.length());
         }
         String[] wrong = {",", "x", "--", "-,", "00", "01", "-00", "-05", "100", "-100", "1-", "0-",
             "10-", "1,,", "1,-,", "1,--", "1,00", "1,100", "1+", "1.", "+", "1;", "1/", "1:", "/",
             ":", "1a", "-x", "0x", "00", "09", "0,01", "1,2,x", "12,-34,567", "-1-", "A", "1A",
-            repeated("0,", 15) + "0,", repeated("1,", 15) + "12,", repeated("0,", 16)};
+            Given.repeated("0,", 15) + "0,", Given.repeated("1,", 15) + "12,",
+            Given.repeated("0,", 16)};
         for (String text : wrong) {
-            PairedChannels x = withBuffer(text);
+            PairedChannels x = Given.withBuffer(text);
             checks.due("firstError of " + text, x.firstError(), text.length() - 1);
             x.clearBuffer();
-            write(x, text.length() < 58 ? text + "1," : text);
+            Given.write(x, text.length() < 58 ? text + "1," : text);
             checks.due("firstError of " + text + "1,", x.firstError(), text.length() - 1);
         }
         for (int code = 33; code <= 126; code++) {
             boolean begins = code == '-' || code >= '0' && code <= '9';
             boolean follows = code == ',' || code >= '0' && code <= '9';
             checks.due("firstError of " + (char) code,
-                    withBuffer("" + (char) code).firstError(), begins ? 1 : 0);
+                    Given.withBuffer("" + (char) code).firstError(), begins ? 1 : 0);
             checks.due("firstError of 7" + (char) code,
-                    withBuffer("7" + (char) code).firstError(), follows ? 2 : 1);
+                    Given.withBuffer("7" + (char) code).firstError(), follows ? 2 : 1);
         }
         PairedChannels x = new PairedChannels();
         x.begin(1);
-        write(x, "1,2,3");
+        Given.write(x, "1,2,3");
         checks.due("firstError of more values than places", x.firstError(), 5);
         checks.due("the buffer stays behind firstError", x.clearBuffer(), 5);
     }
 
     private static void receiveAll() {
-        PairedChannels x = withBuffer("1,-2,0,-0,99,-99,10,8");
+        PairedChannels x = Given.withBuffer("1,-2,0,-0,99,-99,10,8");
         x.open(3);
         checks.due("receiveAll of 8", x.receiveAll(), 8);
         dueValues("receiveAll", x, 1, -2, 0, 0, 99, -99, 10, 8);
-        checks.due("open places stay", openMask(x), 224);
+        checks.due("open places stay", Given.openMask(x), 224);
         checks.due("the buffer behind receiveAll", x.clearBuffer(), 0);
         checks.due("saved states", x.count(8), 2);
-        write(x, "-5");
+        Given.write(x, "-5");
         checks.due("receiveAll of 1", x.receiveAll(), 1);
         dueValues("receiveAll of 1", x, -5, 0, 0, 0, 0, 0, 0, 0);
         String[] wrong = {"", "-", "1,", "1,-", ",", "1,2,x", "01", "100", "-00", "1,,2",
-            repeated("0,", 15), repeated("0,", 16) + "0", "1,2,3,4,5,6,7,8,9,", "1,2,3,4,5,6,7,8,9,-",
-            "1,2,3,4,5,6,7,8,9,00"};
+            Given.repeated("0,", 15), Given.repeated("0,", 16) + "0", "1,2,3,4,5,6,7,8,9,",
+            "1,2,3,4,5,6,7,8,9,-", "1,2,3,4,5,6,7,8,9,00"};
         for (String text : wrong) {
-            PairedChannels y = withBuffer(text);
+            PairedChannels y = Given.withBuffer(text);
             checks.throwsOf(y, "receiveAll of " + text, ARGUMENT, y::receiveAll);
             checks.due("the buffer stays", y.clearBuffer(), text.length());
         }
-        PairedChannels nine = withBuffer("1,2,3,4,5,6,7,8,9");
+        PairedChannels nine = Given.withBuffer("1,2,3,4,5,6,7,8,9");
         checks.throwsOf(nine, "receiveAll of 9 for 8", STATE, nine::receiveAll);
         nine.begin(4);
         checks.due("receiveAll of 9 for 16", nine.receiveAll(), 9);
         dueValues("receiveAll of 9", nine, 1, 2, 3, 4, 5, 6, 7, 8, 9, 0, 0, 0, 0, 0, 0, 0);
-        write(nine, repeated("-1,", 15) + "-42");
+        Given.write(nine, Given.repeated("-1,", 15) + "-42");
         checks.due("receiveAll of 16", nine.receiveAll(), 16);
         checks.due("the last value", nine.place(15, 3), 58);
         nine.begin(1);
-        write(nine, "4,5,6");
+        Given.write(nine, "4,5,6");
         checks.throwsOf(nine, "receiveAll of 3 for 2", STATE, nine::receiveAll);
         nine.undo();
         checks.due("receiveAll of 3 for 16", nine.receiveAll(), 3);
@@ -446,9 +420,9 @@ public final class PromiseTests {
         checks.due("setting 0", x.setting(0), 77);
         checks.due("undo of set", x.undo(), 2);
         checks.due("setting 0", x.setting(0), 500);
-        checks.due("open places", openMask(x), 12);
+        checks.due("open places", Given.openMask(x), 12);
         checks.due("undo of open", x.undo(), 1);
-        checks.due("open places", openMask(x), 0);
+        checks.due("open places", Given.openMask(x), 0);
         checks.due("places", x.count(0), 4);
         checks.due("undo of begin", x.undo(), 0);
         checks.due("places", x.count(0), 8);
@@ -467,9 +441,9 @@ public final class PromiseTests {
         x.receive(0, 60);
         checks.due("undo behind an undo and a change", x.undo(), 0);
         checks.due("the value then", x.place(0, 3), 114);
-        write(x, "3,4");
+        Given.write(x, "3,4");
         x.receiveAll();
-        write(x, "5");
+        Given.write(x, "5");
         checks.due("undo of receiveAll", x.undo(), 0);
         checks.due("the value then", x.place(0, 3), 114);
         checks.due("undo leaves the buffer", x.clearBuffer(), 1);
@@ -724,7 +698,7 @@ public final class PromiseTests {
         checks.throwsOf(x, "heard(MAX)", BOUNDS, () -> x.heard(MOST));
         PairedChannels y = new PairedChannels();
         y.begin(4);
-        write(y, repeated("99,", 15) + "99");
+        Given.write(y, Given.repeated("99,", 15) + "99");
         y.receiveAll();
         checks.due("heard(15) of all 99", y.heard(15), 11584);
         checks.due("heard(0) of all 99", y.heard(0), 10099);
@@ -865,12 +839,12 @@ public final class PromiseTests {
         // the place 3 hears 3; with the place 0 flipped -5, with 0 and 1 flipped 1 again
         PairedChannels back = new PairedChannels();
         back.begin(2);
-        write(back, "4,-3,1,1");
+        Given.write(back, "4,-3,1,1");
         back.receiveAll();
         back.open(1);
         checks.due("borne() up to the first time", back.borne(), 0);
         // it hears 21, 3, -5, -13, -21
-        write(back, "9,4,4,4");
+        Given.write(back, "9,4,4,4");
         back.receiveAll();
         checks.due("borne() of 9, 4, 4, 4", back.borne(), 1);
     }
@@ -896,7 +870,7 @@ public final class PromiseTests {
     private static void digest() {
         dueDigest("a new object", x -> { }, "");
         dueDigest("a buffer", x -> { }, "1,~");
-        dueDigest("a full buffer", x -> { }, repeated("-99,", 15));
+        dueDigest("a full buffer", x -> { }, Given.repeated("-99,", 15));
         dueDigest("open(3)", x -> x.open(3), "");
         dueDigest("a word of 16 places that is sent", x -> {
             x.begin(4);
@@ -937,7 +911,7 @@ public final class PromiseTests {
     }
 
     private static void dueDigest(String of, Change change, String buffer) {
-        PairedChannels x = withBuffer(buffer);
+        PairedChannels x = Given.withBuffer(buffer);
         change.on(x);
         long hash = 2797;
         for (int what = 0; what <= 8; what++) {
@@ -987,7 +961,7 @@ public final class PromiseTests {
         x.open(5);
         x.send(22);
         x.flip(4);
-        write(x, "9,-8,7");
+        Given.write(x, "9,-8,7");
         return x;
     }
 
